@@ -9,6 +9,7 @@ public final class ArrangementTest {
         thenDirections();
         manyNames();
         shy();
+        eachAnew();
         wrong();
         Check.end();
     }
@@ -119,6 +120,21 @@ public final class ArrangementTest {
             Charts.of(ALL + "harbour abcdefgh 0 0;harbour bcdefghi 0 4;harbour a 2 0").shy());
         Check.same("28 the one that cannot be placed", 1,
             Charts.of(ALL + "harbour abcdefgh 0 0;harbour a 2 0").shy());
+    }
+
+    /** Each answer is found by its own call, not left by an earlier one. */
+    private static void eachAnew() {
+        String text = ALL + "harbour xyz 2 0 red;harbour aa 0 1;harbour bb 0 2;voyage xyz aa bb;turn 1";
+        Check.same("23 alone", 1, Charts.of(text).least());
+        Check.same("24 alone", 1, Charts.of(text).placedThen());
+        Check.same("25 alone", 1, Charts.of(text).arranged(0));
+        Check.same("26 alone", 0, Charts.of(text).leastIf(0, false));
+        Check.same("27 alone", 2, Charts.of(text).placedIf(0, false));
+        Check.same("36 alone", 1, Charts.of(text).arrange());
+        PortolanChart chart = Charts.of(text);
+        chart.placedIf(0, false);
+        Check.same("36 not as it would be", 1, chart.arrange());
+        Check.same("36 the red one", 1, chart.harbour(0, 2));
     }
 
     private static void wrong() {

@@ -10,6 +10,7 @@ public final class LoadTest {
         noNames();
         firstErrorCounts();
         whatStays();
+        twoTexts();
         Check.end();
     }
 
@@ -104,6 +105,10 @@ public final class LoadTest {
         error("chart 4 6;chart 4 6", 1, 10, 1);
         error("chart 4 6; island 0", 1, 11, 1);
         error("chart 4 6;7", 1, 10, 1);
+        error("xhart 4 6", 1, 0, 0);
+        for (String word : new String[] {"xand", "xarbour", "xiver", "xlace", "xoyage", "xurn", "lan", "landx", "Land"}) {
+            error("chart 4 6;" + word + " 0 0 0", 1, 10, 1);
+        }
         error("chart 4 6\t", 1, 9, 0);
         error("chart 4 6;land 0 0 5;turn 0;~", 1, 28, 3);
         error("chart 4 6;turn 1 turn 2", 1, 17, 1);
@@ -132,6 +137,8 @@ public final class LoadTest {
         errorIn(base, "place a righ", 1, 8);
         errorIn(base, "place aaaaaaaaa right", 1, 6);
         errorIn(base, "place a right right", 1, 14);
+        errorIn(base, "place a xight", 1, 8);
+        errorIn(base, "harbour b 0 1 xed", 1, 14);
         errorIn(base, "voyage", 1, 6);
         errorIn(base, "voyage ;", 1, 7);
         errorIn(base, "voyage a 1", 1, 9);
@@ -215,6 +222,31 @@ public final class LoadTest {
         errorIn(BASE, "harbour a 3 0 x", 3, 12);
         errorIn(BASE, "river 3 0 x", 3, 8);
         errorIn(BASE, "place a x", 4, 6);
+    }
+
+    /** A letter in the corner cell 0, red harbours and a voyage of an earlier text leave no trace. */
+    private static void twoTexts() {
+        PortolanChart chart = Charts.of("chart 3 6;land 0 0 3;land 1 0 0;harbour abc 0 3 red;harbour d 1 0;"
+            + "place abc left;voyage abc d;turn 2");
+        Check.same("7 the letter in the corner", 'c', chart.cell(0, 3));
+        Check.same("3 one harbour", 1, Charts.load(chart, "chart 3 6;land 0 0 3;harbour ab 0 3"));
+        Check.same("3 no letter", "1 -1 -1 -1 0 1", numbers(chart));
+        Check.same("3 not red, not placed", "0 -1", chart.harbour(0, 1) + " " + chart.harbour(0, 2));
+        Check.same("3 all is new", "3 6 4 1 0 0 0 0 0 0 0 0", Charts.sizes(chart));
+        Check.same("3 a river in the corner", 0, Charts.load(chart, "chart 3 6;land 0 0 3;river 0 0"));
+        Check.same("7 the river in the corner", "2 -1 0 -1 0 1", numbers(chart));
+        Check.same("3 no river any more", 0, Charts.load(chart, "chart 3 6;land 0 0 3"));
+        Check.same("7 land in the corner", "1 -1 -1 -1 0 1", numbers(chart));
+        Check.same("3 sea", 0, Charts.load(chart, "chart 3 6"));
+        Check.same("7 sea in the corner", "0 -1 -1 -1 0 0", numbers(chart));
+    }
+
+    private static String numbers(PortolanChart chart) {
+        StringBuilder text = new StringBuilder();
+        for (int what = 0; what < 6; what++) {
+            text.append(what == 0 ? "" : " ").append(chart.cell(0, what));
+        }
+        return text.toString();
     }
 
     private static void whatStays() {

@@ -13,6 +13,7 @@ public final class PastTest {
         refusals();
         eightActions();
         snapshots();
+        corner();
         Check.end();
     }
 
@@ -102,6 +103,24 @@ public final class PastTest {
         Check.same("50 then", 1, chart.undo());
         Check.same("50 and then", 0, chart.undo());
         Check.same("50 as it was", states[4], Charts.state(chart));
+    }
+
+    private static void corner() {
+        PortolanChart chart = Charts.of("chart 3 6;land 0 0 3;harbour abc 0 3;place abc left");
+        chart.saveSnapshot(0);
+        chart.lift(0);
+        Check.same("50 lifted", 0, chart.drowns(0));
+        chart.undo();
+        Check.same("50 the letter in the corner", 1, chart.drowns(0));
+        chart.lift(0);
+        chart.erode(0);
+        chart.restoreSnapshot(0);
+        Check.same("52 the letter in the corner", "cba@~~", Charts.row(chart, 0));
+        chart.erode(0);
+        Check.same("40 the letter in the corner", 0, chart.size(5));
+        chart.undo();
+        Check.same("50 land in the corner", 1, chart.cell(0, 0));
+        Check.same("50 and the letter", 'c', chart.cell(0, 3));
     }
 
     private static void snapshots() {
