@@ -61,7 +61,37 @@ public final class FaceTest {
         Check.same("NONE", -1, PortolanChart.NONE);
         Check.same("FULL", -2, PortolanChart.FULL);
         Check.same("WRONG", -3, PortolanChart.WRONG);
+        inside(names);
         Check.end();
+    }
+
+    /** What ../shared/LANGUAGE.md says of the classes inside, their fields and their methods. */
+    private static void inside(TreeSet<String> names) {
+        Class<?>[] classes = PortolanChart.class.getDeclaredClasses();
+        Check.same("some twelve classes", true, classes.length < 12);
+        for (Class<?> one : classes) {
+            Check.same(one + " is static", true, Modifier.isStatic(one.getModifiers()));
+            Check.same(one + " is not to be seen", false, Modifier.isPublic(one.getModifiers()));
+            looks(one);
+            for (Method method : one.getDeclaredMethods()) {
+                Check.same(method + " has a name of the face", false, names.contains(method.getName()));
+            }
+        }
+        looks(PortolanChart.class);
+    }
+
+    private static void looks(Class<?> one) {
+        int fields = 0;
+        for (Field field : one.getDeclaredFields()) {
+            boolean isStatic = Modifier.isStatic(field.getModifiers());
+            Check.same(field + " is final if it is static", true, !isStatic || Modifier.isFinal(field.getModifiers()));
+            fields += isStatic ? 0 : 1;
+        }
+        Check.same("fields of " + one, true, fields <= 20);
+        for (Method method : one.getDeclaredMethods()) {
+            Check.same(method + " takes at most seven", true, method.getParameterTypes().length <= 7);
+            Check.same(method + " is not protected", false, Modifier.isProtected(method.getModifiers()));
+        }
     }
 
     private static String told(Method method) {

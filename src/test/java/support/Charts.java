@@ -30,6 +30,30 @@ final class Charts {
         return chart;
     }
 
+    /** A description in which every cell is land. */
+    static String allLand(int rows, int columns) {
+        StringBuilder text = new StringBuilder("chart " + rows + " " + columns);
+        for (int row = 0; row < rows; row++) {
+            text.append(";land ").append(row).append(" 0 ").append(columns - 1);
+        }
+        return text.toString();
+    }
+
+    /** Loads a text in which the sign ^ marks where its error is (the sign itself is left out). */
+    static void error(int kind, String marked) {
+        int position = marked.indexOf('^');
+        String text = marked.substring(0, position) + marked.substring(position + 1);
+        int statement = 0;
+        for (int i = 0; i < position; i++) {
+            statement += marked.charAt(i) == ';' ? 1 : 0;
+        }
+        PortolanChart chart = new PortolanChart();
+        Check.same("3 load of " + marked, -100 - position, load(chart, text));
+        Check.same("4 loadError of " + marked, kind, chart.loadError());
+        Check.same("5 loadStatement of " + marked, statement, chart.loadStatement());
+        Check.same("3 nothing but the buffer changes by " + marked, "3 3 0 0 0 0 0 0 0 0 0 0", sizes(chart));
+    }
+
     static String row(PortolanChart chart, int row) {
         int length = chart.writeRow(row);
         StringBuilder text = new StringBuilder();
