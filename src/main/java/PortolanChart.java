@@ -1131,7 +1131,7 @@ public final class PortolanChart {
         private int count;
 
         void keep(Sheet sheet) {
-            latest = (latest + 1) % MOST_ACTIONS;
+            latest = Math.floorMod(latest + 1, MOST_ACTIONS);
             Sheet kept = past[latest];
             if (kept == null) {
                 kept = new Sheet();
@@ -1142,12 +1142,15 @@ public final class PortolanChart {
         }
 
         boolean giveBack(Sheet sheet) {
+            if (count == 0 || latest < 0 || latest >= MOST_ACTIONS) {
+                return false;
+            }
             Sheet kept = past[latest];
-            if (count == 0 || kept == null) {
+            if (kept == null) {
                 return false;
             }
             sheet.copyFrom(kept);
-            latest = (latest + MOST_ACTIONS - 1) % MOST_ACTIONS;
+            latest = Math.floorMod(latest - 1, MOST_ACTIONS);
             count--;
             return true;
         }

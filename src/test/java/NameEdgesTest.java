@@ -235,6 +235,9 @@ public final class NameEdgesTest {
         Check.same("15 a pair that shares many cells", 1, pair.crossings());
         Check.same("16 one name", "2 1", pair.crossed(0) + " " + pair.crossed(1));
         Check.same("17 six cells have letters", 0, pair.free());
+        PortolanChart ahead = Charts.of(ALL + "harbour ab 2 0;harbour cb 0 3;place ab right;place cb down");
+        Check.same("16 a letter behind its last one is in no same cell", "0 0", ahead.crossed(0) + " " + ahead.crossed(1));
+        Check.same("15 no pair", 0, ahead.crossings());
     }
 
     private static void upright() {

@@ -233,6 +233,12 @@ public final class RiverEdgesTest {
         Check.same("31 behind the last letter", 0, free.washes(10));
         free.lift(0);
         Check.same("31 none is placed", 0, free.washes(9));
+        PortolanChart along = Charts.of(Charts.allLand(3, 6) + ";harbour abc 1 0;harbour p 0 2;harbour q 2 2;"
+            + "place abc right");
+        way("along a name", "[8, 9, 3]", along, 8);
+        Check.same("31 a name with two letters on it", 1, along.washes(8));
+        along.addRiver(8);
+        Check.same("38 a name with two letters on it is lifted", -1, along.harbour(0, 2));
     }
 
     private static void mildestFewestNames() {
